@@ -51,6 +51,15 @@ final class Check {
         }
     }
 
+    /** The test that a sentence of the document has for its own: when it fails, the sentence is told. */
+    static void sentence(String text, Call test) {
+        int before = wrong;
+        throwing("the test itself", null, test);
+        if (wrong != before) {
+            System.out.println("  so this does not hold: " + text);
+        }
+    }
+
     static void end() {
         System.out.println(wrong == 0 ? checks + " checks passed" : wrong + " of " + checks + " checks failed");
         if (wrong != 0) {
